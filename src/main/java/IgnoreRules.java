@@ -442,7 +442,7 @@ public final class IgnoreRules {
                     if (deep) {
                         spread(namesTaken, names);
                     } else {
-                        takeName(rules.text, from, at, path, names);
+                        takeName(rules.text, from, at, path, names, at == end);
                     }
                     from = at + 1;
                 }
@@ -455,8 +455,10 @@ public final class IgnoreRules {
             return to - from == 2 && text[from] == '*' && text[from + 1] == '*';
         }
 
-        private void takeName(char[] text, int from, int to, Path path, int names) {
-            for (int j = names; j > 0; j--) {
+        private void takeName(char[] text, int from, int to, Path path, int names, boolean isLast) {
+            // With the last name all of the path must be taken up: no smaller number is asked for then.
+            int fewest = isLast ? names : 1;
+            for (int j = names; j >= fewest; j--) {
                 namesTaken[j] = namesTaken[j - 1] && nameFits(text, from, to, path, j - 1);
             }
             namesTaken[0] = false;

@@ -457,6 +457,21 @@ public final class PromisesTest {
         Checks.same("12: deep alone", x.name(4, 0, 1), true);
         Checks.same("12: three stars", x.name(5, 0, 1), true);
         Checks.same("12: behind a \\ that takes nothing", x.name(5, 1, 1), false);
+        voidNames("\\", "\\");
+        voidNames("a\\", "a\\");
+        voidNames("[", "[");
+        voidNames("[a", "[a");
+        voidNames("[!a", "b!a");
+        voidNames("*[", "a");
+        voidNames("[a\\]", "a");
+    }
+
+    private static void voidNames(String rule, String path) {
+        IgnoreRules x = Checks.with(rule + "\n**/" + rule, path);
+        Checks.same("12: the void name " + rule, x.name(0, 0, 0), false);
+        Checks.same("12: the void name " + rule + " of two", x.name(1, 1, 0), false);
+        Checks.same("12: the deep one before " + rule, x.name(1, 0, 0), true);
+        Checks.same("7: the void rule " + rule, x.fits(0, true), false);
     }
 
     private static void nameThrows() {
