@@ -7,6 +7,7 @@ public final class PromisesTest {
     public static void main(String[] args) {
         newObject();
         feed();
+        feedBytes();
         wipe();
         read();
         readLines();
@@ -40,6 +41,14 @@ public final class PromisesTest {
         Checks.same("1: no rule leaves out", y.out(true), false);
         Checks.same("1: no rule decides", y.by(true), -1);
         Checks.same("1: no rule fits", y.many(true), 0);
+        Checks.same("1: all of the path decides", y.depth(true), 1);
+        IgnoreRules z = new IgnoreRules();
+        Checks.fails("1: no rule, ahead of no path", INDEX, () -> z.fits(0, true));
+        Checks.fails("1: no rule to have a name", INDEX, () -> z.name(0, 0, 0));
+        Checks.fails("1: no path for by", STATE, () -> z.by(true));
+        Checks.fails("1: no path for depth", STATE, () -> z.depth(true));
+        Checks.fails("1: no path for many", STATE, () -> z.many(true));
+        Checks.same("1: the first byte", z.feed(1, 'a'), 1);
     }
 
     private static void feed() {
@@ -69,6 +78,30 @@ public final class PromisesTest {
         Checks.same("2: five fit", x.feed(5, 0), 1000);
     }
 
+    private static void feedBytes() {
+        for (int n = 1; n <= 8; n++) {
+            IgnoreRules x = new IgnoreRules();
+            Checks.same("2: n " + n, x.feed(n, 0x6867666564636261L), n);
+            Checks.same("2: n " + n + ", one name", x.path(), 1);
+            Checks.rules(x, "abcdefgh".substring(0, n));
+            Checks.same("2: the lowest first, n " + n, x.fits(0, false), true);
+        }
+        for (int at = 0; at < 8; at++) {
+            IgnoreRules x = new IgnoreRules();
+            x.feed(8, 0x0101010101010101L | 0xFFL << (8 * at));
+            Checks.same("2: high bits at " + at, x.path(), 1);
+            Checks.rules(x, "\u0001".repeat(at) + "\u00ff" + "\u0001".repeat(7 - at));
+            Checks.same("2: a high byte at " + at + " changes no other", x.fits(0, false), true);
+        }
+        IgnoreRules x = new IgnoreRules();
+        for (char one : "rest".toCharArray()) {
+            x.feed(1, 0xABCDEF0123456700L | one);
+        }
+        x.path();
+        Checks.rules(x, "rest");
+        Checks.same("2: what is above the n lowest is not used", x.fits(0, false), true);
+    }
+
     private static void wipe() {
         IgnoreRules x = Checks.with("a", "a");
         Checks.feed(x, "abc");
@@ -78,6 +111,9 @@ public final class PromisesTest {
         Checks.same("3: feed starts anew", x.feed(1, 'b'), 1);
         Checks.same("3: what was wiped is gone", x.path(), 1);
         Checks.same("3: the path is b", x.out(false), false);
+        Checks.feed(x, "x".repeat(1000));
+        Checks.same("3: a full tape", x.wipe(), 1000);
+        Checks.same("3: and there is room again", Checks.feed(x, "x".repeat(1000)), 1000);
     }
 
     private static void read() {
@@ -93,6 +129,12 @@ public final class PromisesTest {
         Checks.same("4: the last of them too", x.by(false), 59);
         Checks.same("4: sixty and lines that are none", Checks.rules(x, "#\n\n  \n" + "b\n".repeat(60)), 60);
         Checks.same("4: the path stays", x.depth(false), 1);
+        Checks.same("4: void ones count", Checks.rules(x, "[\n".repeat(60)), 60);
+        Checks.same("4: sixty-one with void ones", Checks.rules(x, "[\n".repeat(60) + "a"), -1);
+        Checks.same("4: and the tape stays", x.wipe(), 121);
+        Checks.same("4: the 61st line is none", Checks.rules(x, "a\n".repeat(60) + "#a\n \n"), 60);
+        Checks.same("4: fewer than before", Checks.rules(x, "a\nb"), 2);
+        Checks.fails("4: the third is gone", INDEX, () -> x.rule(2, 0));
         Checks.same("4: of no tape none", x.read(), 0);
         Checks.fails("4: none is left", INDEX, () -> x.rule(0, 0));
         Checks.same("4: a thousand lines", Checks.rules(x, "\n".repeat(999) + "a"), 1);
@@ -100,19 +142,19 @@ public final class PromisesTest {
     }
 
     private static void readLines() {
-        fits("blanks at the end go", "a  ", "a", true);
-        fits("a blank before stays", " a", " a", true);
-        fits("a blank behind one \\ stays", "a\\ ", "a ", true);
-        fits("and ends that", "a\\   ", "a ", true);
-        fits("a blank behind two \\ goes", "a\\\\  ", "a\\", true);
-        fits("a blank behind three \\ stays", "a\\\\\\ ", "a\\ ", true);
-        fits("a tab stays", "a\t", "a", false);
-        fits("# behind a \\", "\\#a", "#a", true);
-        fits("# that is not the first", " #a", " #a", true);
-        fits("# behind a !", "!#a", "#a", true);
-        fits("! behind a \\", "\\!a", "!a", true);
-        fits("! behind a !", "!!a", "!a", true);
-        fits("byte 13 is as others", "a\r", "a\r", true);
+        Cases.fits("blanks at the end go", "a  ", "a", true);
+        Cases.fits("a blank before stays", " a", " a", true);
+        Cases.fits("a blank behind one \\ stays", "a\\ ", "a ", true);
+        Cases.fits("and ends that", "a\\   ", "a ", true);
+        Cases.fits("a blank behind two \\ goes", "a\\\\  ", "a\\", true);
+        Cases.fits("a blank behind three \\ stays", "a\\\\\\ ", "a\\ ", true);
+        Cases.fits("a tab stays", "a\t", "a", false);
+        Cases.fits("# behind a \\", "\\#a", "#a", true);
+        Cases.fits("# that is not the first", " #a", " #a", true);
+        Cases.fits("# behind a !", "!#a", "#a", true);
+        Cases.fits("! behind a \\", "\\!a", "!a", true);
+        Cases.fits("! behind a !", "!!a", "!a", true);
+        Cases.fits("byte 13 is as others", "a\r", "a\r", true);
         IgnoreRules x = new IgnoreRules();
         Checks.same("4: no rules", Checks.rules(x, "#a\n\n   \n# \n#\\ \n"), 0);
         Checks.same("4: a ! and blanks", Checks.rules(x, "!  "), 1);
@@ -122,64 +164,64 @@ public final class PromisesTest {
     private static void rule() {
         IgnoreRules x = new IgnoreRules();
         Checks.rules(x, "a\n!b\n\nc/\n#\n/d\n!/e/\nf/g/h\n!i/j/");
-        ruleIs(x, 0, 0, 1, 0);
-        ruleIs(x, 1, 1, 1, 1);
-        ruleIs(x, 2, 2, 1, 3);
-        ruleIs(x, 3, 4, 1, 5);
-        ruleIs(x, 4, 7, 1, 6);
-        ruleIs(x, 5, 4, 3, 7);
-        ruleIs(x, 6, 7, 2, 8);
+        Cases.ruleIs(x, 0, 0, 1, 0);
+        Cases.ruleIs(x, 1, 1, 1, 1);
+        Cases.ruleIs(x, 2, 2, 1, 3);
+        Cases.ruleIs(x, 3, 4, 1, 5);
+        Cases.ruleIs(x, 4, 7, 1, 6);
+        Cases.ruleIs(x, 5, 4, 3, 7);
+        Cases.ruleIs(x, 6, 7, 2, 8);
         Checks.fails("5: rule 7", INDEX, () -> x.rule(7, 0));
         Checks.fails("5: rule -1", INDEX, () -> x.rule(-1, 0));
         Checks.fails("5: rule most", INDEX, () -> x.rule(Integer.MAX_VALUE, 0));
         Checks.fails("5: what 3", ARGUMENT, () -> x.rule(0, 3));
         Checks.fails("5: what -1", ARGUMENT, () -> x.rule(6, -1));
         Checks.fails("5: no rule comes ahead of what", INDEX, () -> x.rule(7, 3));
-        bits("a\\/", 12, 2);
-        bits("a\\\\/", 2, 1);
-        bits("a\\\\\\/", 12, 2);
-        bits("a/ ", 2, 1);
-        bits("a/\\ ", 4, 2);
-        bits("**", 0, 1);
-        bits("**/", 2, 1);
-        bits("/**", 4, 1);
-        bits("**/a", 4, 2);
-        bits("/\\!a", 4, 1);
-        bits("\\!/a", 4, 2);
-        bits("[a/b]", 12, 2);
+        Cases.bits("a\\/", 12, 2);
+        Cases.bits("a\\\\/", 2, 1);
+        Cases.bits("a\\\\\\/", 12, 2);
+        Cases.bits("a/ ", 2, 1);
+        Cases.bits("a/\\ ", 4, 2);
+        Cases.bits("**", 0, 1);
+        Cases.bits("**/", 2, 1);
+        Cases.bits("/**", 4, 1);
+        Cases.bits("**/a", 4, 2);
+        Cases.bits("/\\!a", 4, 1);
+        Cases.bits("\\!/a", 4, 2);
+        Cases.bits("[a/b]", 12, 2);
     }
 
     private static void ruleVoid() {
-        bits("/", 10, 1);
-        bits("//", 14, 1);
-        bits("///", 14, 2);
-        bits("!", 9, 1);
-        bits("!/", 11, 1);
-        bits("a//b", 12, 3);
-        bits("//a", 12, 2);
-        bits("a//", 14, 2);
-        bits("\\", 8, 1);
-        bits("a\\\\\\", 8, 1);
-        bits("\\\\", 0, 1);
-        bits("[", 8, 1);
-        bits("[]", 8, 1);
-        bits("[!", 8, 1);
-        bits("[!]", 8, 1);
-        bits("[^]", 8, 1);
-        bits("[]]", 0, 1);
-        bits("[!]]", 0, 1);
-        bits("[a\\]", 8, 1);
-        bits("[a\\]]", 0, 1);
-        bits("[a-\\", 8, 1);
-        bits("[a-]", 0, 1);
-        bits("[[]", 0, 1);
-        bits("]", 0, 1);
-        bits("\\[", 0, 1);
-        bits("a]b[", 8, 1);
-        bits("/".repeat(1000), 14, 999);
-        bits("x".repeat(999) + "[", 8, 1);
-        bits("x".repeat(999) + "\\", 8, 1);
-        bits("x".repeat(998) + "[!", 8, 1);
+        Cases.bits("/", 10, 1);
+        Cases.bits("//", 14, 1);
+        Cases.bits("///", 14, 2);
+        Cases.bits("!", 9, 1);
+        Cases.bits("!/", 11, 1);
+        Cases.bits("a//b", 12, 3);
+        Cases.bits("//a", 12, 2);
+        Cases.bits("a//", 14, 2);
+        Cases.bits("\\", 8, 1);
+        Cases.bits("a\\\\\\", 8, 1);
+        Cases.bits("\\\\", 0, 1);
+        Cases.bits("[", 8, 1);
+        Cases.bits("[]", 8, 1);
+        Cases.bits("[!", 8, 1);
+        Cases.bits("[!]", 8, 1);
+        Cases.bits("[^]", 8, 1);
+        Cases.bits("[]]", 0, 1);
+        Cases.bits("[!]]", 0, 1);
+        Cases.bits("[a\\]", 8, 1);
+        Cases.bits("[a\\]]", 0, 1);
+        Cases.bits("[a-\\", 8, 1);
+        Cases.bits("[a-]", 0, 1);
+        Cases.bits("[[]", 0, 1);
+        Cases.bits("]", 0, 1);
+        Cases.bits("\\[", 0, 1);
+        Cases.bits("a]b[", 8, 1);
+        Cases.bits("/".repeat(1000), 14, 999);
+        Cases.bits("x".repeat(999) + "[", 8, 1);
+        Cases.bits("x".repeat(999) + "\\", 8, 1);
+        Cases.bits("x".repeat(998) + "[!", 8, 1);
         for (String none : new String[] {"[", "\\", "a[", "[]", "[!]", "a\\", "*[", "/", "!", "//", "/a/", "*[a"}) {
             IgnoreRules x = Checks.with("x\n" + none, "a");
             boolean isVoid = (x.rule(1, 0) & 8) != 0;
@@ -212,33 +254,33 @@ public final class PromisesTest {
     }
 
     private static void fitsUnbound() {
-        fits("byte", "a", "a", true);
-        fits("other byte", "a", "b", false);
-        fits("all bytes are taken up", "a", "ab", false);
-        fits("and all of the name are there", "ab", "a", false);
-        fits("in the last name", "a", "x/y/a", true);
-        fits("and in no other", "a", "a/x", false);
-        fits("star takes none", "a*", "a", true);
-        fits("star takes any", "a*b", "axyzb", true);
-        fits("star goes on", "*ab", "aab", true);
-        fits("star does not part", "a*b", "axyzc", false);
-        fits("two stars", "*a*b", "xaxxaxb", true);
-        fits("two stars as one", "a**b", "ab", true);
-        fits("only stars", "***", "abc", true);
-        fits("question mark", "a?c", "abc", true);
-        fits("question mark takes one", "a?", "a", false);
-        fits("question mark takes any", "?", "\u00ff", true);
-        fits("star and question mark", "*?", "a", true);
-        fits("question mark and star", "?*?", "a", false);
-        fits("\\*", "\\*", "a", false);
-        fits("\\* itself", "\\*", "*", true);
-        fits("\\?", "\\?", "?", true);
-        fits("\\[", "\\[a]", "[a]", true);
-        fits("\\\\", "\\\\", "\\", true);
-        fits("\\a", "\\a", "a", true);
-        fits("] alone", "a]", "a]", true);
-        fits("- alone", "a-c", "b", false);
-        fits("! inside", "a!", "a!", true);
+        Cases.fits("byte", "a", "a", true);
+        Cases.fits("other byte", "a", "b", false);
+        Cases.fits("all bytes are taken up", "a", "ab", false);
+        Cases.fits("and all of the name are there", "ab", "a", false);
+        Cases.fits("in the last name", "a", "x/y/a", true);
+        Cases.fits("and in no other", "a", "a/x", false);
+        Cases.fits("star takes none", "a*", "a", true);
+        Cases.fits("star takes any", "a*b", "axyzb", true);
+        Cases.fits("star goes on", "*ab", "aab", true);
+        Cases.fits("star does not part", "a*b", "axyzc", false);
+        Cases.fits("two stars", "*a*b", "xaxxaxb", true);
+        Cases.fits("two stars as one", "a**b", "ab", true);
+        Cases.fits("only stars", "***", "abc", true);
+        Cases.fits("question mark", "a?c", "abc", true);
+        Cases.fits("question mark takes one", "a?", "a", false);
+        Cases.fits("question mark takes any", "?", "\u00ff", true);
+        Cases.fits("star and question mark", "*?", "a", true);
+        Cases.fits("question mark and star", "?*?", "a", false);
+        Cases.fits("\\*", "\\*", "a", false);
+        Cases.fits("\\* itself", "\\*", "*", true);
+        Cases.fits("\\?", "\\?", "?", true);
+        Cases.fits("\\[", "\\[a]", "[a]", true);
+        Cases.fits("\\\\", "\\\\", "\\", true);
+        Cases.fits("\\a", "\\a", "a", true);
+        Cases.fits("] alone", "a]", "a]", true);
+        Cases.fits("- alone", "a-c", "b", false);
+        Cases.fits("! inside", "a!", "a!", true);
         IgnoreRules x = Checks.with("a/\n!a", "a");
         Checks.same("7: for directories alone", x.fits(0, false), false);
         Checks.same("7: directory", x.fits(0, true), true);
@@ -246,118 +288,94 @@ public final class PromisesTest {
     }
 
     private static void fitsBound() {
-        fits("bound at the first", "/a", "a", true);
-        fits("bound, deeper", "/a", "x/a", false);
-        fits("bound, longer path", "/a", "a/x", false);
-        fits("two names", "a/b", "a/b", true);
-        fits("two names, one", "a/b", "a", false);
-        fits("two names, deeper", "a/b", "x/a/b", false);
-        fits("two names with items", "a*/[b]?", "abc/bx", true);
-        fits("a star takes no name", "a/*", "a", false);
-        fits("a star takes one name", "a/*", "a/b", true);
-        fits("a star takes no two names", "a/*", "a/b/c", false);
-        fits("a star takes no /", "/a*c", "ab/bc", false);
-        fits("question mark takes no /", "/a?c", "a/c", false);
-        fits("set takes no /", "/a[!b]c", "a/c", false);
+        Cases.fits("bound at the first", "/a", "a", true);
+        Cases.fits("bound, deeper", "/a", "x/a", false);
+        Cases.fits("bound, longer path", "/a", "a/x", false);
+        Cases.fits("two names", "a/b", "a/b", true);
+        Cases.fits("two names, one", "a/b", "a", false);
+        Cases.fits("two names, deeper", "a/b", "x/a/b", false);
+        Cases.fits("two names with items", "a*/[b]?", "abc/bx", true);
+        Cases.fits("a star takes no name", "a/*", "a", false);
+        Cases.fits("a star takes one name", "a/*", "a/b", true);
+        Cases.fits("a star takes no two names", "a/*", "a/b/c", false);
+        Cases.fits("a star takes no /", "/a*c", "ab/bc", false);
+        Cases.fits("question mark takes no /", "/a?c", "a/c", false);
+        Cases.fits("set takes no /", "/a[!b]c", "a/c", false);
         IgnoreRules x = Checks.with("/a/b/", "a/b");
         Checks.same("7: bound, file", x.fits(0, false), false);
         Checks.same("7: bound, directory", x.fits(0, true), true);
     }
 
     private static void fitsDeep() {
-        fits("deep first, none", "**/a", "a", true);
-        fits("deep first, some", "**/a", "x/y/a", true);
-        fits("deep first, further", "**/a", "a/x", false);
-        fits("deep between, none", "a/**/b", "a/b", true);
-        fits("deep between, some", "a/**/b", "a/x/y/b", true);
-        fits("deep between, other end", "a/**/b", "a/x/y/c", false);
-        fits("deep between, twice its end", "a/**/b", "a/b/x/b", true);
-        fits("deep last, none", "a/**", "a", false);
-        fits("deep last, one", "a/**", "a/b", true);
-        fits("deep last, more", "a/**", "a/b/c/d", true);
-        fits("deep last, other first", "a/**", "b/a/c", false);
-        fits("deep alone", "/**", "a", true);
-        fits("deep alone, more", "/**", "a/b/c", true);
-        fits("two deep, too few", "a/**/**", "a", false);
-        fits("two deep, one", "a/**/**", "a/b", true);
-        fits("two deep first", "**/**/a", "a", true);
-        fits("deep on both sides", "**/a/**", "a", false);
-        fits("deep on both sides, one", "**/a/**", "x/a/b", true);
-        fits("deep on both sides, at the end", "**/a/**", "x/a", false);
-        fits("two names between", "**/a/b/**/c", "a/a/b/b/c", true);
-        fits("not bound, so not deep", "**", "a/b", true);
-        fits("three stars are not deep", "/***", "a/b", false);
-        fits("three stars take one", "***/a", "a", false);
-        fits("three stars take just one", "***/a", "x/a", true);
-        fits("stars beside a byte are not deep", "a/**b", "a/x/b", false);
-        fits("stars beside a byte", "a/**b", "a/xb", true);
-        fits("\\** is not deep", "\\**/a", "x/y/a", false);
-        fits("\\** begins with a star", "\\**/a", "*x/a", true);
-        fits("deep ones of many", "**/".repeat(300) + "a", "b/".repeat(19) + "a", true);
+        Cases.fits("deep first, none", "**/a", "a", true);
+        Cases.fits("deep first, some", "**/a", "x/y/a", true);
+        Cases.fits("deep first, further", "**/a", "a/x", false);
+        Cases.fits("deep between, none", "a/**/b", "a/b", true);
+        Cases.fits("deep between, some", "a/**/b", "a/x/y/b", true);
+        Cases.fits("deep between, other end", "a/**/b", "a/x/y/c", false);
+        Cases.fits("deep between, twice its end", "a/**/b", "a/b/x/b", true);
+        Cases.fits("deep last, none", "a/**", "a", false);
+        Cases.fits("deep last, one", "a/**", "a/b", true);
+        Cases.fits("deep last, more", "a/**", "a/b/c/d", true);
+        Cases.fits("deep last, other first", "a/**", "b/a/c", false);
+        Cases.fits("deep alone", "/**", "a", true);
+        Cases.fits("deep alone, more", "/**", "a/b/c", true);
+        Cases.fits("two deep, too few", "a/**/**", "a", false);
+        Cases.fits("two deep, one", "a/**/**", "a/b", true);
+        Cases.fits("two deep first", "**/**/a", "a", true);
+        Cases.fits("deep on both sides", "**/a/**", "a", false);
+        Cases.fits("deep on both sides, one", "**/a/**", "x/a/b", true);
+        Cases.fits("deep on both sides, at the end", "**/a/**", "x/a", false);
+        Cases.fits("two names between", "**/a/b/**/c", "a/a/b/b/c", true);
+        Cases.fits("not bound, so not deep", "**", "a/b", true);
+        Cases.fits("three stars are not deep", "/***", "a/b", false);
+        Cases.fits("three stars take one", "***/a", "a", false);
+        Cases.fits("three stars take just one", "***/a", "x/a", true);
+        Cases.fits("stars beside a byte are not deep", "a/**b", "a/x/b", false);
+        Cases.fits("stars beside a byte", "a/**b", "a/xb", true);
+        Cases.fits("\\** is not deep", "\\**/a", "x/y/a", false);
+        Cases.fits("\\** begins with a star", "\\**/a", "*x/a", true);
+        Cases.fits("deep ones of many", "**/".repeat(300) + "a", "b/".repeat(19) + "a", true);
         IgnoreRules x = Checks.with("a/**/", "a/b");
         Checks.same("7: deep, file", x.fits(0, false), false);
         Checks.same("7: deep, directory", x.fits(0, true), true);
     }
 
     private static void fitsSets() {
-        set("[ab]", "ab");
-        set("[a-c]", "abc");
-        set("[a-]", "a-");
-        set("[-a]", "a-");
-        set("[a-c-e]", "abc-e");
-        set("[]]", "]");
-        set("[]a]", "]a");
-        set("[]-a]", "]^_`a");
-        set("[]-]", "]-");
-        set("[\\]]", "]");
-        set("[\\a]", "a");
-        set("[\\\\]", "\\");
-        set("[a\\-c]", "a-c");
-        set("[[-\\]]", "[\\]");
-        set("[\\[-\\]]", "[\\]");
-        set("[z-a]", "");
-        set("[c-cz-a]", "c");
-        set("[a-\\]]", "");
-        set("[--0]", "-./0");
-        set("[---]", "-");
-        set("[+--]", "+,-");
-        set("[a-a]", "a");
-        set("[a!]", "a!");
-        set("[a^]", "a^");
-        set("[\\!a]", "!a");
-        set("[*?[]", "*?[");
-        set("[a\u00fe-\u00ff]", "a\u00fe\u00ff");
-        set("[~-\u0081]", "~\u007f\u0080\u0081");
-        fits("a set and more", "[a-c]]", "b]", true);
-        fits("the first ] ends it", "[a-]b]", "-b]", true);
-        fits("a set takes one byte", "[ab]", "ab", false);
-        fits("a set behind a star", "*[0-9]", "a12", true);
-        fits("sets behind one another", "[a][!a]", "ab", true);
-        fits("a set at the tape's end", "x".repeat(994) + "\n[!-a]", "b", true);
-    }
-
-    /** A set takes what it is told to take, and with ! or ^ all but that. */
-    private static void set(String pattern, String taken) {
-        String rest = pattern.substring(1);
-        IgnoreRules x = new IgnoreRules();
-        IgnoreRules y = new IgnoreRules();
-        for (char one = 0; one < 256; one++) {
-            if (one % 32 == 0) {
-                x = new IgnoreRules();
-                y = new IgnoreRules();
-                Checks.rules(x, pattern);
-                Checks.rules(y, "[!" + rest + "\n[^" + rest);
-            }
-            if (one == '/' || one == '\n') {
-                continue;
-            }
-            boolean due = taken.indexOf(one) >= 0;
-            Checks.path(x, String.valueOf(one));
-            Checks.path(y, String.valueOf(one));
-            Checks.same("7: " + pattern + " and byte " + (int) one, x.fits(0, false), due);
-            Checks.same("7: " + pattern + " with ! and byte " + (int) one, y.fits(0, false), !due);
-            Checks.same("7: " + pattern + " with ^ and byte " + (int) one, y.fits(1, false), !due);
-        }
+        Cases.set("[ab]", "ab");
+        Cases.set("[a-c]", "abc");
+        Cases.set("[a-]", "a-");
+        Cases.set("[-a]", "a-");
+        Cases.set("[a-c-e]", "abc-e");
+        Cases.set("[]]", "]");
+        Cases.set("[]a]", "]a");
+        Cases.set("[]-a]", "]^_`a");
+        Cases.set("[]-]", "]-");
+        Cases.set("[\\]]", "]");
+        Cases.set("[\\a]", "a");
+        Cases.set("[\\\\]", "\\");
+        Cases.set("[a\\-c]", "a-c");
+        Cases.set("[[-\\]]", "[\\]");
+        Cases.set("[\\[-\\]]", "[\\]");
+        Cases.set("[z-a]", "");
+        Cases.set("[c-cz-a]", "c");
+        Cases.set("[a-\\]]", "");
+        Cases.set("[--0]", "-./0");
+        Cases.set("[---]", "-");
+        Cases.set("[+--]", "+,-");
+        Cases.set("[a-a]", "a");
+        Cases.set("[a!]", "a!");
+        Cases.set("[a^]", "a^");
+        Cases.set("[\\!a]", "!a");
+        Cases.set("[*?[]", "*?[");
+        Cases.set("[a\u00fe-\u00ff]", "a\u00fe\u00ff");
+        Cases.set("[~-\u0081]", "~\u007f\u0080\u0081");
+        Cases.fits("a set and more", "[a-c]]", "b]", true);
+        Cases.fits("the first ] ends it", "[a-]b]", "-b]", true);
+        Cases.fits("a set takes one byte", "[ab]", "ab", false);
+        Cases.fits("a set behind a star", "*[0-9]", "a12", true);
+        Cases.fits("sets behind one another", "[a][!a]", "ab", true);
+        Cases.fits("a set at the tape's end", "x".repeat(994) + "\n[!-a]", "b", true);
     }
 
     private static void fitsThrows() {
@@ -372,24 +390,24 @@ public final class PromisesTest {
     }
 
     private static void out() {
-        outIs("a", "a", true, true);
-        outIs("a", "b", false, false);
-        outIs("a/", "a", false, true);
-        outIs("a\n!a", "a", false, false);
-        outIs("!a\na", "a", true, true);
-        outIs("a\n!a/", "a", true, false);
-        outIs("!a", "a", false, false);
-        outIs("a", "a/b", true, true);
-        outIs("a/", "a/b", true, true);
-        outIs("a/\n!a/b", "a/b", true, true);
-        outIs("a/*\n!a/b", "a/b", false, false);
-        outIs("a/*\n!a/b", "a/b/c", false, false);
-        outIs("a/*\n!a/b", "a/x/c", true, true);
-        outIs("a\n!a/", "a/b", false, false);
-        outIs("b/\n!*", "x/b/c/d", false, false);
-        outIs("!*\nb/", "x/b/c/d", true, true);
-        outIs("**/b/**\n!c", "b/c/d", false, true, 3);
-        outIs("/", "a/b", false, false);
+        Cases.outIs("a", "a", true, true);
+        Cases.outIs("a", "b", false, false);
+        Cases.outIs("a/", "a", false, true);
+        Cases.outIs("a\n!a", "a", false, false);
+        Cases.outIs("!a\na", "a", true, true);
+        Cases.outIs("a\n!a/", "a", true, false);
+        Cases.outIs("!a", "a", false, false);
+        Cases.outIs("a", "a/b", true, true);
+        Cases.outIs("a/", "a/b", true, true);
+        Cases.outIs("a/\n!a/b", "a/b", true, true);
+        Cases.outIs("a/*\n!a/b", "a/b", false, false);
+        Cases.outIs("a/*\n!a/b", "a/b/c", false, false);
+        Cases.outIs("a/*\n!a/b", "a/x/c", true, true);
+        Cases.outIs("a\n!a/", "a/b", false, false);
+        Cases.outIs("b/\n!*", "x/b/c/d", false, false);
+        Cases.outIs("!*\nb/", "x/b/c/d", true, true);
+        Cases.outUnder("**/b/**\n!c", "b/c/d", false, true, 3);
+        Cases.outIs("/", "a/b", false, false);
         IgnoreRules x = new IgnoreRules();
         Checks.rules(x, "a");
         Checks.fails("8: no path", STATE, () -> x.out(true));
@@ -397,44 +415,57 @@ public final class PromisesTest {
     }
 
     private static void by() {
-        byIs("a", "a", 0, 0);
-        byIs("a", "b", -1, -1);
-        byIs("a\na\nb", "a", 1, 1);
-        byIs("a\na/", "a", 0, 1);
-        byIs("a\n!a", "a", 1, 1);
-        byIs("a\nb", "a/b", 0, 0);
-        byIs("!a\nb", "a/b", 1, 1);
-        byIs("!a\n!b", "a/c", -1, -1);
-        byIs("a\n!b\na/\nx", "x/a/b", 3, 3);
-        byIs("a\n!b\na/\n!x", "x/a/b", 2, 2);
+        Cases.byIs("a", "a", 0, 0);
+        Cases.byIs("a", "b", -1, -1);
+        Cases.byIs("a\na\nb", "a", 1, 1);
+        Cases.byIs("a\na/", "a", 0, 1);
+        Cases.byIs("a\n!a", "a", 1, 1);
+        Cases.byIs("a\nb", "a/b", 0, 0);
+        Cases.byIs("!a\nb", "a/b", 1, 1);
+        Cases.byIs("a/", "a/b", 0, 0);
+        Cases.byIs("b/", "a/b", -1, 0);
+        Cases.byIs("", "a/b", -1, -1);
+        Cases.byIs("a\n" + "b\n".repeat(59), "a/b", 0, 0);
+        Cases.byIs("a\n" + "b\n".repeat(59), "b", 59, 59);
+        Cases.byIs("a\n!a\n!b", "a/b", 2, 2);
+        Cases.byIs("!a\n!b", "a/c", -1, -1);
+        Cases.byIs("a\n!b\na/\nx", "x/a/b", 3, 3);
+        Cases.byIs("a\n!b\na/\n!x", "x/a/b", 2, 2);
         IgnoreRules x = new IgnoreRules();
         Checks.fails("9: no path", STATE, () -> x.by(true));
         Checks.fails("9: no path, file", STATE, () -> x.by(false));
     }
 
     private static void depth() {
-        depthIs("a", "a", 1);
-        depthIs("x", "a/b/c", 3);
-        depthIs("a", "a/b/c", 1);
-        depthIs("b", "a/b/c", 2);
-        depthIs("c", "a/b/c", 3);
-        depthIs("!a", "a/b/c", 3);
-        depthIs("b\na\n!a", "a/b/c", 2);
-        depthIs("c\nb/", "a/b/c", 2);
-        depthIs("*", "a/b/c", 1);
-        depthIs("c/", "a/b/c", 3);
-        depthIs("**/a/**", "x/".repeat(17) + "a/b/c", 19);
+        Cases.depthIs("a", "a", 1);
+        Cases.depthIs("x", "a/b/c", 3);
+        Cases.depthIs("a", "a/b/c", 1);
+        Cases.depthIs("b", "a/b/c", 2);
+        Cases.depthIs("c", "a/b/c", 3);
+        Cases.depthIs("!a", "a/b/c", 3);
+        Cases.depthIs("b\na\n!a", "a/b/c", 2);
+        Cases.depthIs("c\nb/", "a/b/c", 2);
+        Cases.depthIs("*", "a/b/c", 1);
+        Cases.depthIs("c/", "a/b/c", 3);
+        Cases.depthIs("", "a", 1);
+        Cases.depthIs("", "a/".repeat(19) + "a", 20);
+        Cases.depthIs("*/", "a/".repeat(19) + "a", 1);
+        Cases.depthIs("b/", "a/".repeat(18) + "b/a", 19);
+        Cases.depthIs("b/", "a/".repeat(19) + "b", 20);
+        Cases.depthIs("**/a/**", "x/".repeat(17) + "a/b/c", 19);
         IgnoreRules x = new IgnoreRules();
         Checks.fails("10: no path", STATE, () -> x.depth(true));
         Checks.fails("10: no path, file", STATE, () -> x.depth(false));
     }
 
     private static void many() {
-        manyIs("a\nb", "c", 0, 0);
-        manyIs("a\n!a\na/\n/a\nb\n[", "a", 3, 4);
-        manyIs("a", "a/b", 0, 0);
-        manyIs("b\nb/\na/*\na", "a/b", 2, 3);
-        manyIs("*\n".repeat(60), "a/b", 60, 60);
+        Cases.manyIs("a\nb", "c", 0, 0);
+        Cases.manyIs("a\n!a\na/\n/a\nb\n[", "a", 3, 4);
+        Cases.manyIs("a", "a/b", 0, 0);
+        Cases.manyIs("b\nb/\na/*\na", "a/b", 2, 3);
+        Cases.manyIs("*\n".repeat(60), "a/b", 60, 60);
+        Cases.manyIs("", "a/b", 0, 0);
+        Cases.manyIs("*/\n!*\n".repeat(30), "a", 30, 60);
         IgnoreRules x = new IgnoreRules();
         Checks.fails("11: no path", STATE, () -> x.many(true));
         Checks.fails("11: no path, file", STATE, () -> x.many(false));
@@ -457,6 +488,12 @@ public final class PromisesTest {
         Checks.same("12: deep alone", x.name(4, 0, 1), true);
         Checks.same("12: three stars", x.name(5, 0, 1), true);
         Checks.same("12: behind a \\ that takes nothing", x.name(5, 1, 1), false);
+        IgnoreRules y = Checks.with("!b/\n/**/\n" + "*/".repeat(19) + "b", "a/".repeat(19) + "b");
+        Checks.same("12: turned and for directories alone", y.name(0, 0, 19), true);
+        Checks.same("12: of another name of the path", y.name(0, 0, 18), false);
+        Checks.same("12: deep and for directories alone", y.name(1, 0, 19), true);
+        Checks.same("12: the last of 20", y.name(2, 19, 19), true);
+        Checks.same("12: the first of 20", y.name(2, 0, 0), true);
         voidNames("\\", "\\");
         voidNames("a\\", "a\\");
         voidNames("[", "[");
@@ -489,57 +526,5 @@ public final class PromisesTest {
         Checks.fails("12: name 2 of the path", INDEX, () -> x.name(0, 0, 2));
         Checks.fails("12: name -1 of the path", INDEX, () -> x.name(0, 0, -1));
         Checks.same("12: all is as before", x.name(0, 1, 1), true);
-    }
-
-    private static void fits(String what, String rules, String path, boolean due) {
-        IgnoreRules x = Checks.with(rules, path);
-        int last = rules.indexOf('\n') < 0 ? 0 : 1;
-        Checks.same("7: " + what, x.fits(last, false), due);
-    }
-
-    private static void ruleIs(IgnoreRules x, int i, int bits, int names, int line) {
-        Checks.same("5: bits of rule " + i, x.rule(i, 0), bits);
-        Checks.same("5: names of rule " + i, x.rule(i, 1), names);
-        Checks.same("5: line of rule " + i, x.rule(i, 2), line);
-    }
-
-    private static void bits(String rule, int bits, int names) {
-        IgnoreRules x = new IgnoreRules();
-        Checks.same("5: one rule " + rule, Checks.rules(x, rule), 1);
-        Checks.same("5: bits of " + rule, x.rule(0, 0), bits);
-        Checks.same("5: names of " + rule, x.rule(0, 1), names);
-        Checks.same("5: line of " + rule, x.rule(0, 2), 0);
-    }
-
-    private static void outIs(String rules, String path, boolean file, boolean directory) {
-        IgnoreRules x = Checks.with(rules, path);
-        Checks.same("8: " + rules + " for the file " + path, x.out(false), file);
-        Checks.same("8: " + rules + " for the directory " + path, x.out(true), directory);
-    }
-
-    private static void outIs(String rules, String path, boolean parent, boolean due, int names) {
-        IgnoreRules x = Checks.with(rules, path.substring(0, path.lastIndexOf('/')));
-        Checks.same("8: " + rules + " above " + path, x.out(true), parent);
-        Checks.path(x, path);
-        Checks.same("8: " + rules + " for " + path, x.out(false), due);
-        Checks.same("8: " + rules + " decided for " + path, x.depth(false), names);
-    }
-
-    private static void byIs(String rules, String path, int file, int directory) {
-        IgnoreRules x = Checks.with(rules, path);
-        Checks.same("9: " + rules + " for the file " + path, x.by(false), file);
-        Checks.same("9: " + rules + " for the directory " + path, x.by(true), directory);
-    }
-
-    private static void depthIs(String rules, String path, int due) {
-        IgnoreRules x = Checks.with(rules, path);
-        Checks.same("10: " + rules + " for the file " + path, x.depth(false), due);
-        Checks.same("10: " + rules + " for the directory " + path, x.depth(true), due);
-    }
-
-    private static void manyIs(String rules, String path, int file, int directory) {
-        IgnoreRules x = Checks.with(rules, path);
-        Checks.same("11: " + rules + " for the file " + path, x.many(false), file);
-        Checks.same("11: " + rules + " for the directory " + path, x.many(true), directory);
     }
 }

@@ -1,14 +1,20 @@
 /** What the tests share: a count of the wrong answers, and texts put on a tape in bytes. */
 public final class Checks {
     private static int wrong = 0;
+    private static String sentence = "";
 
     private Checks() {
+    }
+
+    /** The sentence of the document that the checks from here on are about. */
+    public static void about(String words) {
+        sentence = "\"" + words + "\": ";
     }
 
     public static void same(String what, long got, long due) {
         if (got != due) {
             wrong++;
-            System.out.println(what + " answered " + got + ", due is " + due);
+            System.out.println(sentence + what + " answered " + got + ", due is " + due);
         }
     }
 
@@ -25,7 +31,7 @@ public final class Checks {
         }
         if (!got.equals(due.getSimpleName())) {
             wrong++;
-            System.out.println(what + " threw " + got + ", due is " + due.getSimpleName());
+            System.out.println(sentence + what + " threw " + got + ", due is " + due.getSimpleName());
         }
     }
 
