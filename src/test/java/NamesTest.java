@@ -334,6 +334,9 @@ public final class NamesTest {
         Checks.same("12: the name that is not void", y.name(0, 0, 0), true);
         Checks.same("12: the name that is", y.name(0, 1, 1), false);
         Checks.same("12: the deep one", y.name(0, 2, 2), true);
+        IgnoreRules z = Checks.with("*//b", "a");
+        Checks.same("12: one that fits", z.name(0, 0, 0), true);
+        Checks.same("12: an empty one right behind one that fits", z.name(0, 1, 0), false);
     }
 
     private static void deep() {
