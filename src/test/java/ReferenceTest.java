@@ -1,7 +1,10 @@
 import java.util.Random;
 import java.util.function.LongSupplier;
 
-/** Made-up runs of calls, the same each time, on the class and on the reference side by side. */
+/**
+ * The class and the reference side by side: made-up runs of calls, the same each time, and every short line of the
+ * bytes that mean something.
+ */
 public final class ReferenceTest {
     private static final int RUNS = 1500;
     private static final int CALLS = 512;
@@ -10,6 +13,10 @@ public final class ReferenceTest {
         "\n", "/**/", "**/", "/**", "\n!", "/\n", " \n", "\\ ", "\\\n", "\u00ff", "\u0080-\u00ff", "\u0000"};
     private static final String[] PATH_PIECES = {"a", "b", "c", "ab", "a", "b", "/", "/", "/", "]", "-", "*", "\\",
         " ", "!", "\u00ff", "\u0085", "\u0000"};
+    private static final String MEANINGS = "ab*?/\\[]!^- #";
+    private static final int SHORT_LINE = 3;
+    private static final String[] SHORT_PATHS = {"a", "b", "ab", "a/b", "b/a/b", "]", "-", "\\", "[", "!", "^", "a]",
+        " ", "a ", "#", "*", "a/*/b", "]/a"};
 
     private final Random random;
     private final IgnoreRules x = new IgnoreRules();
@@ -26,7 +33,44 @@ public final class ReferenceTest {
         for (int seed = 0; seed < RUNS; seed++) {
             new ReferenceTest(seed).run(seed);
         }
+        shortLines("");
         Checks.end();
+    }
+
+    /** Tries a line, and all that begin with it. */
+    private static void shortLines(String line) {
+        new ReferenceTest(0).runLine(line);
+        for (int i = 0; line.length() < SHORT_LINE && i < MEANINGS.length(); i++) {
+            shortLines(line + MEANINGS.charAt(i));
+        }
+    }
+
+    private void runLine(String line) {
+        String run = "the line " + line + ": ";
+        feed(run, line);
+        rules = (int) both(run + "read()", x::read, y::read);
+        for (int what = 0; what < 3; what++) {
+            int asked = what;
+            both(run + "rule, " + what, () -> x.rule(0, asked), () -> y.rule(0, asked));
+        }
+        for (String path : rules == 0 ? new String[0] : SHORT_PATHS) {
+            feed(run, path);
+            names = (int) both(run + "path()", x::path, y::path);
+            askLine(run + path + ", ");
+        }
+    }
+
+    private void askLine(String run) {
+        for (boolean d : new boolean[] {false, true}) {
+            both(run + d + ": fits", () -> x.fits(0, d) ? 1 : 0, () -> y.fits(0, d) ? 1 : 0);
+            both(run + d + ": out", () -> x.out(d) ? 1 : 0, () -> y.out(d) ? 1 : 0);
+            both(run + d + ": by", () -> x.by(d), () -> y.by(d));
+            both(run + d + ": depth", () -> x.depth(d), () -> y.depth(d));
+        }
+        for (int k = 0; k < SHORT_LINE; k++) {
+            int name = k;
+            both(run + k + ": name", () -> x.name(0, name, names - 1) ? 1 : 0, () -> y.name(0, name, names - 1) ? 1 : 0);
+        }
     }
 
     private void run(int seed) {
